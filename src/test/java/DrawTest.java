@@ -1,0 +1,159 @@
+/** Promises 21 to 24: draw, byteAt, share, digest. */
+public final class DrawTest {
+    private DrawTest() {
+    }
+
+    public static void main(String[] args) {
+        drawing();
+        drawingInOrder();
+        bytes();
+        sharing();
+        digesting();
+        Check.end();
+    }
+
+    private static final String PLAIN = "333333333333";
+
+    private static void drawing() {
+        Check.dueDrawing("a new siege", new SapperWar(), PLAIN, PLAIN, PLAIN, PLAIN, PLAIN, PLAIN, PLAIN, PLAIN, PLAIN,
+                PLAIN, PLAIN, PLAIN);
+        SapperWar war = Check.war("123456789#.3", "abcdefghi333");
+        war.openAt(4, 1);
+        Check.dueDrawing("all kinds", war, "123456789#.3", "WWWWwWWWW333", PLAIN, PLAIN, PLAIN, PLAIN, PLAIN, PLAIN,
+                PLAIN, PLAIN, PLAIN, PLAIN);
+        war.openAt(11, 11);
+        war.come(1, 11, 11, 9, 1);
+        Check.dueDrawing("in the place of what was there", war, "123456789#.3", "WWWWwWWWW333", PLAIN, PLAIN, PLAIN,
+                PLAIN, PLAIN, PLAIN, PLAIN, PLAIN, PLAIN, "33333333333" + "1");
+    }
+
+    private static void drawingInOrder() {
+        SapperWar war = Check.war("...i", "aa");
+        war.come(1, 0, 0, 9, 1);
+        war.come(1, 1, 0, 1, 1);
+        war.come(0, 1, 0, 9, 1);
+        war.openAt(3, 0);
+        war.come(0, 3, 0, 9, 1);
+        Check.dueDrawing("the smallest number, also over a wall", war, "11.033333333", "WW3333333333", PLAIN, PLAIN,
+                PLAIN, PLAIN, PLAIN, PLAIN, PLAIN, PLAIN, PLAIN, PLAIN);
+        war.pass(1);
+        Check.dueDrawing("who is gone is not drawn", war, "10.033333333", "WW3333333333", PLAIN, PLAIN,
+                PLAIN, PLAIN, PLAIN, PLAIN, PLAIN, PLAIN, PLAIN, PLAIN);
+
+        SapperWar smoke = Check.war("..3a", "3.");
+        smoke.openAt(3, 0);
+        smoke.come(0, 0, 0, 9, 1);
+        smoke.come(0, 3, 0, 9, 1);
+        smoke.order(0, Check.SMOKE, 0, 1);
+        smoke.order(1, Check.SMOKE, 0, 1);
+        smoke.order(1, Check.DIG, Check.LEFT, 1);
+        smoke.pass(1);
+        Check.dueDrawing("smoke", smoke, "0*3033333333", "3.3333333333", PLAIN, PLAIN, PLAIN, PLAIN, PLAIN, PLAIN,
+                PLAIN, PLAIN, PLAIN, PLAIN);
+        Check.due("smoke under a wall", smoke.cell(3, 0, 5), 8);
+
+        SapperWar wall = Check.war("a");
+        wall.openAt(0, 0);
+        wall.pass(5);
+        wall.openAt(0, 0);
+        wall.pass(9);
+        wall.openAt(0, 0);
+        wall.pass(9);
+        wall.draw();
+        Check.due("a fallen wall", wall.byteAt(0), 'X');
+        wall.openAt(0, 0);
+        wall.draw();
+        Check.due("a fallen wall over a tunnel", wall.byteAt(0), 'X');
+        wall.come(1, 0, 0, 9, 1);
+        wall.draw();
+        Check.due("a team under a fallen wall", wall.byteAt(0), '1');
+    }
+
+    private static void bytes() {
+        SapperWar war = Check.war(".");
+        Check.dueOutside("nothing is drawn yet", war, () -> war.byteAt(0));
+        Check.due("draw", war.draw(), 156);
+        Check.due("the first", war.byteAt(0), '.');
+        Check.due("the first line end", war.byteAt(12), 10);
+        Check.due("the last line end", war.byteAt(155), 10);
+        Check.dueOutside("index -1", war, () -> war.byteAt(-1));
+        Check.dueOutside("index 156", war, () -> war.byteAt(156));
+        war.openAt(1, 0);
+        Check.due("the paper stays", war.byteAt(1), '3');
+        Check.due("draw", war.draw(), 156);
+        Check.due("until it is drawn again", war.byteAt(1), '.');
+        Check.due("bytes of the paper", war.count(11), 156);
+    }
+
+    private static void sharing() {
+        SapperWar war = Check.war("a3b3c");
+        Check.dueDouble("none of three", war.share(), 0.0);
+        war.openAt(0, 0);
+        war.pass(5);
+        war.openAt(0, 0);
+        war.pass(9);
+        Check.dueDouble("none yet", war.share(), 0.0);
+        war.openAt(0, 0);
+        war.pass(9);
+        Check.dueDouble("one of three", war.share(), 1.0 / 3.0);
+        for (int i = 0; i < 3; i++) {
+            war.openAt(2, 0);
+            war.pass(9);
+        }
+        Check.dueDouble("two of three", war.share(), 2.0 / 3.0);
+        for (int i = 0; i < 3; i++) {
+            war.openAt(4, 0);
+            war.pass(13);
+        }
+        Check.dueDouble("all", war.share(), 1.0);
+    }
+
+    /** The document's words, by the public calls alone. */
+    private static long digestByHand(SapperWar war) {
+        long d = 709;
+        for (int what = 0; what < 12; what++) {
+            d = d * 31 + war.count(what);
+        }
+        for (int cell = 0; cell < 144; cell++) {
+            for (int what = 0; what < 8; what++) {
+                d = d * 31 + war.cell(cell % 12, cell / 12, what);
+            }
+        }
+        for (int team = 0; team < war.count(1); team++) {
+            for (int what = 0; what < 10; what++) {
+                d = d * 31 + war.team(team, what);
+            }
+            for (int what = 0; what < 3; what++) {
+                d = d * 31 + war.heard(team, what);
+            }
+        }
+        for (int place = 0; place < war.count(11); place++) {
+            d = d * 31 + war.byteAt(place);
+        }
+        return d;
+    }
+
+    private static void digesting() {
+        SapperWar war = new SapperWar();
+        Check.due("new", war.digest(), digestByHand(war));
+        SapperWar busy = Check.war("...a", "3#.9", "....");
+        Check.due("a map", busy.digest(), digestByHand(busy));
+        busy.come(0, 0, 0, 9, 3);
+        busy.come(1, 2, 2, 8, 2);
+        busy.come(1, 0, 2, 2, 5);
+        busy.order(0, Check.LISTEN, 0, 4);
+        busy.order(1, Check.DIG, Check.DOWN, 3);
+        busy.order(2, Check.SMOKE, 0, 1);
+        busy.order(2, Check.GO, Check.LEFT, 1);
+        busy.feed(1, 2, 3, 4, 5);
+        for (int hour = 0; hour < 20; hour++) {
+            busy.pass(1);
+            if (hour % 3 == 2) {
+                busy.draw();
+            }
+            long first = busy.digest();
+            Check.due("hour " + hour, first, digestByHand(busy));
+            Check.due("it changes nothing", busy.digest(), first);
+        }
+    }
+}
