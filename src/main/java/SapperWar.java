@@ -54,7 +54,7 @@ public final class SapperWar {
     private final int[] paper = new int[DRAWING];
     private int paperLength = 0;
     private final Siege siege = new Siege();
-    /** A second siege, in which hours go by that only are looked ahead to. */
+    /** Made once and written over by each look ahead, so that no call makes objects. */
     private final Siege future = new Siege();
     private final Ways ways = new Ways();
 
@@ -445,7 +445,6 @@ public final class SapperWar {
         final int[] bytes = new int[MOST_TAPE];
         int length = 0;
 
-        /** Appends the four bytes of a number, if there is room. */
         void append(int number) {
             if (length < 0 || length + 4 > MOST_TAPE) {
                 return;
@@ -623,7 +622,6 @@ public final class SapperWar {
             return sum / cells;
         }
 
-        /** Burns and ages all tunnels for an hour; those for which it is too much fall in. */
         void settle() {
             for (int cell = 0; cell < CELLS; cell++) {
                 fellIn[cell] = 0;
@@ -966,7 +964,6 @@ public final class SapperWar {
             return false;
         }
 
-        /** Takes health, and lets the team flee to where the smoke is least, if it can. */
         private void choke(Team team) {
             team.noise = FLEE_NOISE;
             team.loseHealth(1);

@@ -129,6 +129,24 @@ public final class AheadTest {
         war.pass(1);
         Check.due("gone", war.lasts(0), 0);
 
+        SapperWar late = Check.war("9");
+        late.openAt(0, 0);
+        late.come(0, 0, 0, 9, 1);
+        for (int i = 0; i < 8; i++) {
+            late.order(0, Check.WAIT, 0, i == 7 ? 6 : 20);
+        }
+        late.order(0, Check.FIRE, 0, 1);
+        Check.due("burnt in the hour 146, behind 150", late.lasts(0), 150);
+        Check.due("and so its tunnel", late.falls(0, 0), 150);
+        Check.due("foreseen for 150", late.foresee(150, 1), 0);
+        late.clear(0);
+        for (int i = 0; i < 8; i++) {
+            late.order(0, Check.WAIT, 0, i == 7 ? 7 : 20);
+        }
+        late.order(0, Check.FIRE, 0, 1);
+        Check.due("burnt in the hour 147, behind 151", late.lasts(0), -1);
+        Check.due("foreseen for 150", late.foresee(150, 1), 1);
+
         SapperWar fight = Check.war("9");
         fight.openAt(0, 0);
         fight.come(0, 0, 0, 9, 1);

@@ -52,6 +52,16 @@ public final class DrawTest {
                 PLAIN, PLAIN, PLAIN, PLAIN);
         Check.due("smoke under a wall", smoke.cell(3, 0, 5), 8);
 
+        SapperWar little = Check.war("3..");
+        little.come(0, 1, 0, 9, 1);
+        little.order(0, Check.SMOKE, 0, 1);
+        for (int left = 3; left >= 0; left--) {
+            little.pass(1);
+            little.draw();
+            Check.due("what is left", little.cell(2, 0, 5), left);
+            Check.due("a smoke of " + left, little.byteAt(2), left > 0 ? '*' : '.');
+        }
+
         SapperWar wall = Check.war("a");
         wall.openAt(0, 0);
         wall.pass(5);

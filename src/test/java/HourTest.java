@@ -89,6 +89,12 @@ public final class HourTest {
         exact.pass(1);
         Check.due("9 of 9 is a tunnel", exact.cell(1, 0, 2), 1);
 
+        SapperWar first = Check.war("3.");
+        first.come(1, 1, 0, 9, 5);
+        first.order(0, Check.DIG, Check.LEFT, 1);
+        first.pass(2);
+        Check.duePlace("into the cell 0", first, 0, 0, 0);
+
         SapperWar left = Check.war(".3");
         left.come(1, 0, 0, 9, 4);
         left.order(0, Check.DIG, Check.RIGHT, 1);
@@ -208,6 +214,13 @@ public final class HourTest {
         Check.dueHealth("one less", first, 9, 8);
         Check.due("noise", first.team(1, 7), 1);
         Check.due("the order stays", first.team(1, 9), 1);
+
+        SapperWar corner = Check.war("..");
+        corner.come(0, 1, 0, 9, 5);
+        corner.come(0, 1, 0, 9, 5);
+        corner.order(0, Check.SMOKE, 0, 1);
+        corner.pass(1);
+        Check.duePlace("to the cell 0", corner, 1, 0, 0);
 
         SapperWar least = Check.war("3.", "...", "3.");
         least.come(0, 1, 0, 9, 5);
@@ -410,6 +423,37 @@ public final class HourTest {
         own.pass(1);
         dueHeard("its own side is not heard", own, -1, -1, -1);
 
+        dueHeard("over a corner down", listenTo(6, 6, Check.DIG, 1), 0, 2, 7);
+        dueHeard("over a corner up", listenTo(4, 4, Check.DIG, 1), 0, 0, 7);
+
+        SapperWar beside = Check.war("......");
+        beside.come(0, 0, 0, 9, 1);
+        beside.come(1, 2, 0, 9, 1);
+        beside.order(0, Check.LISTEN, 0, 1);
+        beside.order(1, Check.GO, Check.LEFT, 1);
+        beside.pass(1);
+        dueHeard("right beside it", beside, 0, 1, 4);
+
+        SapperWar once = Check.war(".3.");
+        once.come(0, 0, 0, 9, 1);
+        once.come(1, 2, 0, 9, 1);
+        once.order(0, Check.LISTEN, 0, 1);
+        once.order(0, Check.WAIT, 0, 1);
+        once.order(1, Check.WAIT, 0, 1);
+        once.order(1, Check.PROP, 0, 1);
+        once.pass(2);
+        dueHeard("it does not listen any more", once, -1, -1, -1);
+
+        SapperWar corner = Check.war(".3.");
+        corner.come(1, 0, 0, 9, 1);
+        corner.come(0, 2, 0, 9, 1);
+        corner.order(0, Check.PROP, 0, 1);
+        corner.order(1, Check.LISTEN, 0, 1);
+        corner.pass(1);
+        Check.due("team 0 in the cell 0 is heard, hour", corner.heard(1, 0), 0);
+        Check.due("team 0 in the cell 0 is heard, direction", corner.heard(1, 1), 3);
+        Check.due("team 0 in the cell 0 is heard, how loud", corner.heard(1, 2), 5);
+
         SapperWar moved = Check.war("......");
         moved.come(0, 0, 0, 9, 1);
         moved.come(1, 4, 0, 9, 1);
@@ -509,6 +553,26 @@ public final class HourTest {
         Check.due("(0, 3) is too far", war.cell(0, 3, 7), 0);
         Check.due("rock", war.cell(1, 1, 7), 0);
 
+        SapperWar back = Check.war("...", "#..", "##.");
+        back.come(0, 2, 2, 9, 1);
+        back.come(0, 2, 0, 9, 1);
+        back.order(0, Check.FIRE, 0, 1);
+        back.pass(1);
+        Check.due("one up", back.cell(2, 1, 7), 3);
+        Check.due("two up", back.cell(2, 0, 7), 3);
+        Check.due("up and left", back.cell(1, 1, 7), 3);
+        Check.due("three", back.cell(1, 0, 7), 0);
+        back.order(1, Check.FIRE, 0, 1);
+        back.pass(1);
+        Check.due("up to the cell 0", back.cell(0, 0, 7), 3);
+        Check.due("what burnt already", back.cell(2, 0, 7), 2);
+
+        SapperWar first = Check.war("..");
+        first.come(0, 1, 0, 9, 1);
+        first.order(0, Check.FIRE, 0, 1);
+        first.pass(1);
+        Check.due("the cell 0 beside it", first.cell(0, 0, 7), 3);
+
         SapperWar gap = Check.war(".3.", "3..");
         gap.come(0, 0, 0, 9, 1);
         gap.order(0, Check.FIRE, 0, 1);
@@ -542,6 +606,16 @@ public final class HourTest {
             }
         }
         Check.due("fell in", war.count(8), 6);
+
+        SapperWar one = Check.war(".");
+        one.come(0, 0, 0, 9, 1);
+        one.order(0, Check.PROP, 0, 1);
+        one.pass(12);
+        Check.dueCell("one prop is not enough", one, 0, 0, 3, -1, 1, 1, 12, 0, 0, 0);
+        one.pass(1);
+        Check.dueCell("without its prop", one, 0, 0, 2, -1, 0, 0, 0, 0, 0, 0);
+        one.openAt(0, 0);
+        Check.dueCell("and nothing is left in a new tunnel", one, 0, 0, 2, -1, 1, 0, 0, 0, 0, 0);
 
         for (int hardness = 1; hardness <= 7; hardness++) {
             int needed = hardness >= 7 ? 0 : hardness >= 4 ? 1 : 2;

@@ -8,6 +8,7 @@ public final class MapTest {
         feeding();
         trimming();
         readingMaps();
+        mapsInThePlaceOfMaps();
         errorsOfMaps();
         mapTakesTeamsAway();
         opening();
@@ -93,6 +94,32 @@ public final class MapTest {
         Check.dueCell("the last cell", war, 11, 11, 9, 20, 0, 0, 0, 0, 0, 0);
     }
 
+    private static void mapsInThePlaceOfMaps() {
+        SapperWar war = Check.war("9.a..#", "3");
+        war.come(0, 3, 0, 9, 4);
+        war.come(0, 4, 0, 9, 4);
+        war.order(0, Check.PROP, 0, 1);
+        war.order(0, Check.SMOKE, 0, 1);
+        war.order(0, Check.FIRE, 0, 1);
+        war.order(1, Check.WAIT, 0, 1);
+        war.order(1, Check.PROP, 0, 1);
+        war.order(1, Check.DIG, Check.DOWN, 1);
+        war.order(1, Check.PROP, 0, 1);
+        war.pass(4);
+        Check.due("burning", war.cell(3, 0, 7) > 0 ? 1 : 0, 1);
+        Check.due("work", war.cell(4, 1, 6), 8);
+        Check.tape(war, ".#5.3." + plainMap().substring(6));
+        Check.due("map", war.map(), -1);
+        Check.dueCell("a tunnel where earth was", war, 0, 0, 3, -1, 1, 0, 0, 0, 0, 0);
+        Check.dueCell("rock where a tunnel was", war, 1, 0, 0, -1, 0, 0, 0, 0, 0, 0);
+        Check.dueCell("earth where a wall was", war, 2, 0, 5, -1, 0, 0, 0, 0, 0, 0);
+        Check.dueCell("a tunnel where it burnt", war, 3, 0, 3, -1, 1, 0, 0, 0, 0, 0);
+        Check.dueCell("earth where a tunnel was", war, 4, 0, 3, -1, 0, 0, 0, 0, 0, 0);
+        Check.dueCell("a tunnel where rock was", war, 5, 0, 3, -1, 1, 0, 0, 0, 0, 0);
+        Check.dueCell("no work any more", war, 4, 1, 3, -1, 0, 0, 0, 0, 0, 0);
+        Check.due("no smoke any more", war.count(7), 0);
+    }
+
     private static String plainMap() {
         return "333333333333\n".repeat(12);
     }
@@ -119,6 +146,8 @@ public final class MapTest {
         dueError("a tape that ends behind a line", map.substring(0, 13), 13);
         dueError("a byte too much", map + "3", 156);
         dueError("a line end too much", map + "\n", 156);
+        dueError("an error in the first cell", "0" + map.substring(1), 0);
+        dueError("a line end in the first cell", "\n", 0);
         dueError("the first of two errors", "3x3x", 1);
         dueError("an error before an early end", "33j", 2);
         dueError("an error in the last cell", map.substring(0, 154) + "\n\n", 154);
@@ -136,11 +165,19 @@ public final class MapTest {
     }
 
     private static void mapTakesTeamsAway() {
-        SapperWar war = Check.war("..");
+        SapperWar war = Check.war(".3.");
         war.come(0, 0, 0, 9, 5);
+        war.come(1, 2, 0, 9, 5);
         war.order(0, Check.GO, Check.UP, 1);
-        war.pass(1);
+        war.order(0, Check.LISTEN, 0, 1);
+        war.order(0, Check.PROP, 0, 9);
+        war.order(1, Check.WAIT, 0, 1);
+        war.order(1, Check.PROP, 0, 1);
+        war.pass(3);
+        Check.due("noise before the map", war.team(0, 7), 2);
         Check.due("missed before the map", war.count(9), 1);
+        Check.due("heard before the map", war.heard(0, 2), 5);
+        Check.due("orders before the map", war.team(0, 5), 1);
         Check.tape(war, plainMap());
         Check.due("map", war.map(), -1);
         Check.due("no teams", war.count(1), 0);
@@ -152,7 +189,9 @@ public final class MapTest {
         for (int what = 0; what < 10; what++) {
             Check.due("the new team has nothing of the old one, " + what, war.team(0, what), fresh[what]);
         }
-        Check.due("the new team heard nothing", war.heard(0, 0), -1);
+        for (int what = 0; what < 3; what++) {
+            Check.due("the new team heard nothing, " + what, war.heard(0, what), -1);
+        }
     }
 
     private static void opening() {

@@ -100,6 +100,11 @@ public final class WayTest {
         Check.due("the way around is shorter", around.reach(0, 2, 0), 4);
         Check.due("27 by 5", around.reach(0, 1, 0), 6);
 
+        SapperWar corner = Check.war("..9......", ".##.#####", "....#####");
+        corner.come(0, 1, 0, 9, 1);
+        Check.due("a way over the cell 0", corner.reach(0, 8, 0), 13);
+        Check.due("the same by tunnels", corner.way(1, 0, 8, 0), 13);
+
         for (int skill = 1; skill <= 5; skill++) {
             for (int hardness = 1; hardness <= 9; hardness++) {
                 SapperWar other = Check.war("." + hardness);
@@ -133,6 +138,10 @@ public final class WayTest {
         SapperWar several = Check.war("#a#", "a.a", "#a#");
         several.come(0, 1, 1, 9, 1);
         Check.due("of several the least", several.target(0), 1);
+
+        SapperWar first = Check.war("a.3a", "", "3a");
+        first.come(0, 1, 0, 9, 1);
+        Check.due("the cell 0, with others farther away", first.target(0), 0);
 
         SapperWar none = Check.war("3.3");
         none.come(0, 1, 0, 9, 1);
