@@ -1,3 +1,5 @@
+import java.math.BigInteger;
+
 /** What the tests share: answers that are due, exceptions that are due, and maps on the tape. */
 final class Check {
     private static int wrong = 0;
@@ -7,6 +9,15 @@ final class Check {
 
     interface Call {
         void make();
+    }
+
+    /** Makes the same siege each time it is asked. */
+    interface Maker {
+        SapperWar make();
+    }
+
+    interface CallOn {
+        void make(SapperWar war);
     }
 
     static void due(String what, long got, long want) {
@@ -47,6 +58,94 @@ final class Check {
     static void dueBadState(String what, SapperWar war, Call call) {
         dueThrown(what, war, IllegalStateException.class, call);
     }
+
+    /**
+     * The call is to throw an exception of exactly this class, and the siege is to go on in all as one made
+     * the same way that never had that call: also in what no call tells at once.
+     */
+    static void dueRefused(String what, Maker maker, Class<?> want, CallOn call) {
+        SapperWar war = maker.make();
+        dueThrown(what, war, want, () -> call.make(war));
+        dueSame(what, war, maker.make());
+    }
+
+    static void dueOutside(String what, Maker maker, CallOn call) {
+        dueRefused(what, maker, IndexOutOfBoundsException.class, call);
+    }
+
+    static void dueBadArgument(String what, Maker maker, CallOn call) {
+        dueRefused(what, maker, IllegalArgumentException.class, call);
+    }
+
+    static void dueBadState(String what, Maker maker, CallOn call) {
+        dueRefused(what, maker, IllegalStateException.class, call);
+    }
+
+    private static final int HOURS_COMPARED = 30;
+
+    /** Two sieges are alike now, in the hours to come (the orders that wait), and in the bytes of the tape. */
+    static void dueSame(String what, SapperWar war, SapperWar twin) {
+        due(what + ", the digest of its twin", war.digest(), twin.digest());
+        for (int hour = 1; hour <= HOURS_COMPARED; hour++) {
+            due(what + ", walls in the hour " + hour + " behind it", war.pass(1), twin.pass(1));
+            due(what + ", the digest " + hour + " hours behind it", war.digest(), twin.digest());
+        }
+        fillTape(war);
+        fillTape(twin);
+        due(what + ", its tape as a map", war.map(), twin.map());
+        due(what + ", the digest behind that map", war.digest(), twin.digest());
+    }
+
+    /** Makes what is on the tape as long as a map. */
+    private static void fillTape(SapperWar war) {
+        String plain = (PLAIN + "\n").repeat(12);
+        for (int from = war.count(10); from < 156; from += 20) {
+            war.feed(word(plain, from), word(plain, from + 4), word(plain, from + 8), word(plain, from + 12),
+                    word(plain, from + 16));
+        }
+        war.trim(156);
+    }
+
+    private static final BigInteger WHOLE = BigInteger.ONE.shiftLeft(64);
+
+    private static BigInteger next(BigInteger d, int x) {
+        return d.multiply(BigInteger.valueOf(31)).add(BigInteger.valueOf(x)).mod(WHOLE);
+    }
+
+    /** The checksum is what the document's words make of the answers of the other calls. */
+    static void dueDigest(String what, Maker maker) {
+        BigInteger d = BigInteger.valueOf(709);
+        SapperWar war = maker.make();
+        for (int i = 0; i < 12; i++) {
+            d = next(d, war.count(i));
+        }
+        for (int cell = 0; cell < 144; cell++) {
+            // A new twin for each 24 cells, as an object is good for 512 calls.
+            war = cell % 24 == 0 ? maker.make() : war;
+            for (int i = 0; i < 8; i++) {
+                d = next(d, war.cell(cell % 12, cell / 12, i));
+            }
+        }
+        war = maker.make();
+        int teams = war.count(1);
+        for (int t = 0; t < teams; t++) {
+            for (int i = 0; i < 10; i++) {
+                d = next(d, war.team(t, i));
+            }
+            for (int i = 0; i < 3; i++) {
+                d = next(d, war.heard(t, i));
+            }
+        }
+        war = maker.make();
+        int bytes = war.count(11);
+        for (int i = 0; i < bytes; i++) {
+            d = next(d, war.byteAt(i));
+        }
+        due(what + ", digest", war.digest(), d.longValue());
+        due(what + ", digest once more", war.digest(), d.longValue());
+    }
+
+    static final String PLAIN = "333333333333";
 
     /** The health of the teams from 0 on. */
     static void dueHealth(String what, SapperWar war, int... want) {
@@ -127,6 +226,37 @@ final class Check {
         }
         tape(war, text.toString());
         due("map", war.map(), -1);
+        return war;
+    }
+
+    /**
+     * A siege in which much goes on: five teams, the team 2 gone and the team 4 with 12 orders, work, props, smoke,
+     * fire and a wall with less strength, 156 bytes on the paper, and a tape that is a map.
+     */
+    static SapperWar busy() {
+        SapperWar war = war("...3a..b#...", ".#.c3.3339.3", "....5..i....", "9");
+        war.openAt(4, 0);
+        war.openAt(7, 2);
+        war.openAt(3, 1);
+        war.pass(5);
+        war.come(0, 0, 0, 9, 5);
+        war.come(1, 11, 0, 8, 4);
+        war.come(0, 5, 0, 1, 1);
+        war.come(1, 6, 0, 2, 2);
+        int[][] orders = {{0, PROP, 0, 1}, {0, SMOKE, 0, 1}, {0, FIRE, 0, 1}, {0, DIG, DOWN, 4}, {0, GO, LEFT, 1},
+            {1, LISTEN, 0, 1}, {1, PROP, 0, 1}, {1, DIG, DOWN, 2}, {1, PROP, 0, 4}, {2, WAIT, 0, 1}, {3, DIG, DOWN, 1},
+            {3, FIRE, 0, 1}, {3, LISTEN, 0, 3}};
+        for (int[] order : orders) {
+            war.order(order[0], order[1], order[2], order[3]);
+        }
+        war.pass(3);
+        war.openAt(11, 11);
+        war.come(1, 11, 11, 7, 3);
+        for (int i = 0; i < 12; i++) {
+            war.order(4, i % 2 == 0 ? DIG : PROP, i % 4, 1 + i % 3);
+        }
+        war.draw();
+        tape(war, ("123456789#.a\n" + ".#3b9i1.33.3\n").repeat(6));
         return war;
     }
 

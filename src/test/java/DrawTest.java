@@ -118,52 +118,31 @@ public final class DrawTest {
         Check.dueDouble("all", war.share(), 1.0);
     }
 
-    /** The document's words, by the public calls alone. */
-    private static long digestByHand(SapperWar war) {
-        long d = 709;
-        for (int what = 0; what < 12; what++) {
-            d = d * 31 + war.count(what);
-        }
-        for (int cell = 0; cell < 144; cell++) {
-            for (int what = 0; what < 8; what++) {
-                d = d * 31 + war.cell(cell % 12, cell / 12, what);
+    private static SapperWar fought(int hours) {
+        SapperWar war = Check.war("...a", "3#.9", "....");
+        war.come(0, 0, 0, 9, 3);
+        war.come(1, 2, 2, 8, 2);
+        war.come(1, 0, 2, 2, 5);
+        war.order(0, Check.LISTEN, 0, 4);
+        war.order(1, Check.DIG, Check.DOWN, 3);
+        war.order(2, Check.SMOKE, 0, 1);
+        war.order(2, Check.GO, Check.LEFT, 1);
+        war.feed(1, 2, 3, 4, 5);
+        for (int hour = 0; hour < hours; hour++) {
+            war.pass(1);
+            if (hour % 3 == 2) {
+                war.draw();
             }
         }
-        for (int team = 0; team < war.count(1); team++) {
-            for (int what = 0; what < 10; what++) {
-                d = d * 31 + war.team(team, what);
-            }
-            for (int what = 0; what < 3; what++) {
-                d = d * 31 + war.heard(team, what);
-            }
-        }
-        for (int place = 0; place < war.count(11); place++) {
-            d = d * 31 + war.byteAt(place);
-        }
-        return d;
+        return war;
     }
 
     private static void digesting() {
-        SapperWar war = new SapperWar();
-        Check.due("new", war.digest(), digestByHand(war));
-        SapperWar busy = Check.war("...a", "3#.9", "....");
-        Check.due("a map", busy.digest(), digestByHand(busy));
-        busy.come(0, 0, 0, 9, 3);
-        busy.come(1, 2, 2, 8, 2);
-        busy.come(1, 0, 2, 2, 5);
-        busy.order(0, Check.LISTEN, 0, 4);
-        busy.order(1, Check.DIG, Check.DOWN, 3);
-        busy.order(2, Check.SMOKE, 0, 1);
-        busy.order(2, Check.GO, Check.LEFT, 1);
-        busy.feed(1, 2, 3, 4, 5);
-        for (int hour = 0; hour < 20; hour++) {
-            busy.pass(1);
-            if (hour % 3 == 2) {
-                busy.draw();
-            }
-            long first = busy.digest();
-            Check.due("hour " + hour, first, digestByHand(busy));
-            Check.due("it changes nothing", busy.digest(), first);
+        Check.dueDigest("new", SapperWar::new);
+        Check.dueDigest("a map", () -> Check.war("...a", "3#.9", "...."));
+        for (int hours = 0; hours <= 20; hours++) {
+            int passed = hours;
+            Check.dueDigest("behind " + hours + " hours", () -> fought(passed));
         }
     }
 }

@@ -590,22 +590,22 @@ public final class HourTest {
     }
 
     private static void ageing() {
-        SapperWar war = Check.war("123456789");
-        for (int x = 0; x < 9; x++) {
-            war.openAt(x, 0);
-        }
         int[] fallsIn = {5, 9, 13, 17, 21, 25, 0, 0, 0};
-        for (int hour = 1; hour <= 30; hour++) {
-            war.pass(1);
-            for (int x = 0; x < 9; x++) {
+        for (int x = 0; x < 9; x++) {
+            SapperWar war = Check.war("123456789");
+            for (int i = 0; i < 9; i++) {
+                war.openAt(i, 0);
+            }
+            for (int hour = 1; hour <= 30; hour++) {
+                war.pass(1);
                 boolean fell = fallsIn[x] != 0 && hour >= fallsIn[x];
                 Check.due("tunnel, hour " + hour + ", hardness " + (x + 1), war.cell(x, 0, 2), fell ? 0 : 1);
                 Check.due("age, hour " + hour + ", hardness " + (x + 1), war.cell(x, 0, 4),
                         fell || fallsIn[x] == 0 ? 0 : hour);
                 Check.due("hardness, hour " + hour, war.cell(x, 0, 0), fell ? 2 : x + 1);
             }
+            Check.due("fell in", war.count(8), 6);
         }
-        Check.due("fell in", war.count(8), 6);
 
         SapperWar one = Check.war(".");
         one.come(0, 0, 0, 9, 1);

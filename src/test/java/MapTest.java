@@ -23,8 +23,9 @@ public final class MapTest {
             Check.due("new, count(" + what + ")", war.count(what), counts[what]);
         }
         for (int y = 0; y < 12; y++) {
+            SapperWar row = new SapperWar();
             for (int x = 0; x < 12; x++) {
-                Check.dueCell("new", war, x, y, 3, -1, 0, 0, 0, 0, 0, 0);
+                Check.dueCell("new", row, x, y, 3, -1, 0, 0, 0, 0, 0, 0);
             }
         }
         Check.dueDouble("new, share", war.share(), 0.0);

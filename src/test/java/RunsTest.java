@@ -3,8 +3,9 @@
  * throws or only tells changes nothing, and what is foreseen is what comes.
  */
 public final class RunsTest {
-    private static final int RUNS = 150;
-    private static final int CALLS = 512;
+    private static final int RUNS = 500;
+    /** With the digests between them, and what a map takes, these are less than the 512 that an object is good for. */
+    private static final int CALLS = 110;
     /** Allowed exceptions by call: 1 IndexOutOfBounds, 2 IllegalArgument, 4 IllegalState; 8 if it changes nothing ever. */
     private static final int[] RULES = {4, 2, 0, 1 + 4, 1 + 8, 1 + 2 + 4, 1 + 2 + 4, 1, 1 + 8, 1 + 8, 2, 1 + 8, 1 + 8,
         1 + 8, 1 + 8, 1 + 2 + 8, 1 + 8, 1 + 8, 1 + 2 + 8, 0, 1 + 8, 8, 8};
@@ -42,9 +43,9 @@ public final class RunsTest {
 
     private static void longRun(int run) {
         SapperWar war = below(2) == 0 ? madeUpSiege() : new SapperWar();
+        long before = war.digest();
         for (int i = 0; i < CALLS; i++) {
             int which = below(RULES.length);
-            long before = war.digest();
             int thrown = 0;
             try {
                 call(war, which);
@@ -55,9 +56,11 @@ public final class RunsTest {
             if (thrown < 0 || (thrown & RULES[which]) != thrown) {
                 Check.wrong(what + " threw what it may not, " + thrown);
             }
+            long behind = war.digest();
             if (thrown != 0 || (RULES[which] & 8) != 0) {
-                Check.due(what + ", the digest behind it", war.digest(), before);
+                Check.due(what + ", the digest behind it", behind, before);
             }
+            before = behind;
         }
     }
 
@@ -79,7 +82,8 @@ public final class RunsTest {
             case 0: return war.feed(0x33333333, 0x2e2e2e2e, 0x61333961, 0x0a333333, below(1 << 30));
             case 1: return war.trim(near(201));
             case 2:
-                if (war.count(10) == 0 && below(2) == 0) {
+                if (below(8) == 0) {
+                    war.trim(0);
                     Check.tape(war, madeUpMap());
                 }
                 return war.map();
@@ -122,58 +126,86 @@ public final class RunsTest {
         SapperWar war = new SapperWar();
         Check.tape(war, madeUpMap());
         Check.due("a made-up map", war.map(), -1);
-        for (int i = 0; i < 40 && war.count(1) < 8; i++) {
+        for (int i = 0; i < 24 && war.count(1) < 8; i++) {
             int x = below(12);
             int y = below(12);
             if (war.cell(x, y, 2) == 1) {
                 war.come(below(2), x, y, 1 + below(9), 1 + below(5));
             }
         }
-        for (int i = 0; i < 60; i++) {
-            int team = war.count(1) == 0 ? -1 : below(war.count(1));
-            if (team >= 0 && war.team(team, 5) < 12) {
-                war.order(team, below(7), below(4), 1 + below(6));
+        int teams = war.count(1);
+        for (int i = 0; i < 7 * teams; i++) {
+            if (war.team(i % teams, 5) < 12) {
+                war.order(i % teams, below(7), below(4), 1 + below(6));
             }
         }
         return war;
     }
 
-    /** What foresee, falls and lasts tell at first is what an hour after the other brings. */
+    /** What foresee, falls and lasts tell at first is what an hour after the other brings, each to a twin. */
     private static void foreseenRun(int run) {
+        long itsSeed = seed;
         SapperWar war = madeUpSiege();
         int hours = 1 + below(60);
+        int x = below(12);
+        int y = below(12);
         int[] foreseen = new int[4];
         for (int what = 0; what < 4; what++) {
             foreseen[what] = war.foresee(hours, what);
         }
-        int x = below(12);
-        int y = below(12);
         int falls = war.falls(x, y);
         int[] lasts = new int[war.count(1)];
         for (int team = 0; team < lasts.length; team++) {
             lasts[team] = war.lasts(team);
         }
+        String what = "foreseen run " + run;
+        dueForeseen(what, war, hours, foreseen);
+        dueFalls(what, twin(itsSeed), x, y, falls);
+        for (int team = 0; team < lasts.length; team++) {
+            dueLasts(what + ", team " + team, twin(itsSeed), team, lasts[team]);
+        }
+    }
+
+    /** The same made-up siege once more; the numbers that come go on as if there were none. */
+    private static SapperWar twin(long itsSeed) {
+        long later = seed;
+        seed = itsSeed;
+        SapperWar war = madeUpSiege();
+        seed = later;
+        return war;
+    }
+
+    private static void dueForeseen(String what, SapperWar war, int hours, int[] foreseen) {
         int before = war.count(8);
         int wallsFallen = 0;
-        for (int hour = 1; hour <= 150; hour++) {
-            String what = "foreseen run " + run + ", hour " + hour;
-            int tunnel = war.cell(x, y, 2);
+        for (int hour = 1; hour <= hours; hour++) {
             wallsFallen += war.pass(1);
-            if (falls == hour) {
-                Check.due(what + ", no tunnel any more", war.cell(x, y, 2), 0);
-            } else if ((falls < 0 || hour < falls) && tunnel == 1) {
-                Check.due(what + ", still a tunnel", war.cell(x, y, 2), 1);
-            }
-            for (int team = 0; team < lasts.length; team++) {
-                int left = lasts[team] < 0 || hour < lasts[team] ? 1 : 0;
-                Check.due(what + ", team " + team + " is left", war.team(team, 3) > 0 ? 1 : 0, left);
-            }
-            if (hour == hours) {
-                Check.due(what + ", walls", wallsFallen, foreseen[0]);
-                Check.due(what + ", side 0", war.count(2), foreseen[1]);
-                Check.due(what + ", side 1", war.count(3), foreseen[2]);
-                Check.due(what + ", fell in", war.count(8) - before, foreseen[3]);
-            }
         }
+        Check.due(what + ", walls", wallsFallen, foreseen[0]);
+        Check.due(what + ", side 0", war.count(2), foreseen[1]);
+        Check.due(what + ", side 1", war.count(3), foreseen[2]);
+        Check.due(what + ", fell in", war.count(8) - before, foreseen[3]);
+    }
+
+    private static void dueFalls(String what, SapperWar war, int x, int y, int falls) {
+        int tunnel = war.cell(x, y, 2);
+        for (int hour = 1; hour <= (falls < 0 ? 150 : falls); hour++) {
+            war.pass(1);
+            int now = war.cell(x, y, 2);
+            if (hour == falls) {
+                Check.due(what + ", no tunnel any more, hour " + hour, now, 0);
+            } else if (tunnel == 1) {
+                Check.due(what + ", still a tunnel, hour " + hour, now, 1);
+            }
+            tunnel = now;
+        }
+    }
+
+    private static void dueLasts(String what, SapperWar war, int team, int lasts) {
+        for (int hour = 1; hour <= (lasts < 0 ? 150 : lasts); hour++) {
+            Check.due(what + " is left behind " + (hour - 1), war.team(team, 3) > 0 ? 1 : 0, 1);
+            war.pass(1);
+        }
+        Check.due(what + " is left", war.team(team, 3) > 0 ? 1 : 0, lasts < 0 ? 1 : 0);
     }
 }
